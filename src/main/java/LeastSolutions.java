@@ -28,8 +28,8 @@ public final class LeastSolutions {
     private final Lattice lattice = new Lattice();
     private final Search search = new Search();
     private final VectorList[] lists = new VectorList[3];
-    private final int[] told = new int[MOST_COLUMNS];
     private final Cheapest cheapest = new Cheapest();
+    private final int[] told = new int[MOST_COLUMNS];
     private final int[] rest = new int[MOST_COLUMNS];
     private final int[] taken = new int[MOST_VECTORS];
     private final int[] bestVector = new int[MOST_COLUMNS];
@@ -40,9 +40,9 @@ public final class LeastSolutions {
     private int faultPlace = NONE;
 
     public LeastSolutions() {
-        lists[SUMMANDS] = new VectorList(false);
-        lists[LEAST] = new VectorList(false);
-        lists[SIGNED] = new VectorList(true);
+        for (int what = SUMMANDS; what <= SIGNED; what++) {
+            lists[what] = new VectorList();
+        }
     }
 
     public int type(long characters, int n) {
@@ -225,7 +225,7 @@ public final class LeastSolutions {
     private int takeOften(int i) {
         VectorList summands = lists[SUMMANDS];
         int often = 0;
-        for (int n = 0; n < MOST_BOUND && summands.isWithin(i, rest, 1); n++) {
+        for (int n = 0; n < MOST_BOUND && summands.isWithin(i, rest); n++) {
             summands.takeFrom(rest, i);
             often++;
         }
@@ -647,7 +647,6 @@ public final class LeastSolutions {
         private void endTerm() {
             if (open != NONE) {
                 result.b[row] -= side * sign * open;
-                open = NONE;
             }
         }
 
@@ -704,7 +703,7 @@ public final class LeastSolutions {
             findKernel();
         }
 
-        /** Reduces after each step, as the numbers would else outgrow a long. */
+        /** Reduces after each step, so that the numbers stay far below what a long can hold. */
         private void insertFresh() {
             for (int at = 0; at < width && used < MOST_COLUMNS; at++) {
                 if (fresh[at] == 0) {
@@ -843,7 +842,6 @@ public final class LeastSolutions {
             rows = system.rows;
             columns = system.columns();
             isSigned = isSignedToo;
-            Arrays.fill(vector, 0);
             for (int row = 0; row < rows; row++) {
                 System.arraycopy(system.a[row], 0, a[row], 0, MOST_COLUMNS);
                 lack[row] = isHomogeneous ? 0 : system.b[row];
@@ -852,8 +850,6 @@ public final class LeastSolutions {
         }
 
         private void findReach(int row) {
-            lowest[row][columns] = 0;
-            highest[row][columns] = 0;
             for (int column = columns - 1; column >= 0; column--) {
                 int most = isSigned ? Math.abs(a[row][column]) : a[row][column];
                 int least = isSigned ? -most : most;
@@ -891,6 +887,7 @@ public final class LeastSolutions {
             return goesOn;
         }
 
+        /** Whether the columns from here on, of this size together, may give each row what it lacks. */
         private boolean canBeFilled(int column, int size) {
             if (column >= columns && size != 0) {
                 return false;
@@ -915,7 +912,6 @@ public final class LeastSolutions {
     /** Of the vectors that it is given, by size, those that have none before them within. */
     private static final class VectorList extends Taker {
         private final byte[] numbers = new byte[MOST_VECTORS * MOST_COLUMNS];
-        private final boolean isSigned;
         private boolean isThere = false;
         private int columns = 0;
         private int bound = 0;
@@ -923,21 +919,15 @@ public final class LeastSolutions {
         // How many are of a lesser size: none of the same size can be within another.
         private int lesser = 0;
 
-        VectorList(boolean isSigned) {
-            this.isSigned = isSigned;
-        }
-
         void begin(int columnsOfAll, int boundOfAll) {
             columns = columnsOfAll;
             bound = boundOfAll;
             total = 0;
-            lesser = 0;
             isThere = true;
         }
 
         void drop() {
             isThere = false;
-            total = 0;
         }
 
         boolean has(int i) {
@@ -967,20 +957,24 @@ public final class LeastSolutions {
             return true;
         }
 
+        /**
+         * The signed vectors need not be looked at with the other sign: a vector that is not in the
+         * list is the sum of some that are, each within it, and one of these leads where it does.
+         */
         private boolean hasOneWithin(int[] vector) {
             for (int i = 0; i < lesser; i++) {
-                if (isWithin(i, vector, 1) || isSigned && isWithin(i, vector, -1)) {
+                if (isWithin(i, vector)) {
                     return true;
                 }
             }
             return false;
         }
 
-        /** Whether each number of vector i, times the sign, is from 0 to that of the vector. */
-        boolean isWithin(int i, int[] vector, int sign) {
+        /** Whether each number of vector i is from 0 to that of the vector. */
+        boolean isWithin(int i, int[] vector) {
             int start = i * MOST_COLUMNS;
             for (int column = 0; column < columns; column++) {
-                int inner = sign * numbers[start + column];
+                int inner = numbers[start + column];
                 int outer = vector[column];
                 if (outer >= 0 ? inner < 0 || inner > outer : inner > 0 || inner < outer) {
                     return false;
@@ -991,7 +985,7 @@ public final class LeastSolutions {
 
         int firstWithin(int[] vector) {
             for (int i = 0; i < total; i++) {
-                if (isWithin(i, vector, 1)) {
+                if (isWithin(i, vector)) {
                     return i;
                 }
             }

@@ -26,7 +26,7 @@ public final class ModelTest {
             test.systems(i);
         }
         for (int i = 0; i < 3000; i++) {
-            test.greatKernels();
+            test.greatKernels(i);
         }
         Due.end("ModelTest");
     }
@@ -297,7 +297,7 @@ public final class ModelTest {
         do {
             text = smallSystem(i % 4);
         } while (new Parser(text).fault != 0);
-        x = Due.system(text);
+        x = next(i);
         rows = x.count(0);
         columns = x.count(1);
         a = new Parser(text).matrix();
@@ -319,9 +319,18 @@ public final class ModelTest {
         }
     }
 
+    /** Some systems for each object, so that one is not worked out by what is left of another. */
+    private LeastSolutions next(int i) {
+        if (i % 5 == 0) {
+            return Due.system(text);
+        }
+        Due.fault(x, text, 0, NONE);
+        return x;
+    }
+
     private String smallSystem(int size) {
         StringBuilder made = new StringBuilder();
-        int height = 1 + random.nextInt(3);
+        int height = 1 + random.nextInt(4);
         int letters = 1 + random.nextInt(2 + size);
         for (int row = 0; row < height; row++) {
             made.append(row == 0 ? "" : ";");
@@ -529,21 +538,21 @@ public final class ModelTest {
 
     // The kernel, by minors
 
-    private void greatKernels() {
+    private void greatKernels(int i) {
         int height = 1 + random.nextInt(4);
         int letters = 1 + random.nextInt(6);
         StringBuilder made = new StringBuilder();
         for (int row = 0; row < height; row++) {
             made.append(row == 0 ? "" : ";");
-            for (int i = 0; i < letters; i++) {
-                made.append(i == 0 ? "0" : "").append(random.nextBoolean() ? "+" : "-");
+            for (int j = 0; j < letters; j++) {
+                made.append(j == 0 ? "0" : "").append(random.nextBoolean() ? "+" : "-");
                 made.append(random.nextInt(3) == 0 ? 20 - random.nextInt(2) : random.nextInt(21));
-                made.append((char) ('a' + i));
+                made.append((char) ('a' + j));
             }
             made.append("=").append(random.nextInt(3) == 0 ? 0 : random.nextInt(201));
         }
         text = made.toString();
-        x = Due.system(text);
+        x = next(i);
         rows = height;
         columns = letters;
         a = new Parser(text).matrix();

@@ -8,6 +8,7 @@ public final class SplitTest {
         split();
         splitIsGreedy();
         splitIsRefused();
+        splitWithoutAList();
         splitWithoutColumns();
         times();
         timesAreGone();
@@ -56,6 +57,10 @@ public final class SplitTest {
         holds(y, 3, -2, -1, 3, 2);
         holds(y, 4, 2, 1, 0, 0);
         holds(y, 0, 2, 0, 0, -2);
+        LeastSolutions z = Due.system("x=1;y=1;x+y=2;x-y=0");
+        holds(z, 5, 1, 1);
+        holds(z, 6, 0, 0);
+        holds(z, 4, 2, 2);
         Due.answer("no columns, a solution", Due.system("1=1").holds(), 7);
         Due.answer("no columns, no solution", Due.system("1=2").holds(), 6);
     }
@@ -129,6 +134,27 @@ public final class SplitTest {
         Due.tell(x, 0, -1);
         Due.answer("a number below 0", x.split(), NONE);
         Due.answer("what is NONE changes nothing", x.times(0), 2);
+    }
+
+    private static void splitWithoutAList() {
+        for (int other = 0; other <= 1; other++) {
+            LeastSolutions x = Due.system("x=y");
+            x.work(other, 16);
+            Due.answer("split() of 0 with the list " + other + " alone", x.split(), NONE);
+            x.work(1 - other, 16);
+            Due.answer("split() of 0", x.split(), 0);
+            Due.fault(x, "x=y", 0, NONE);
+            Due.tell(x, 3, 3);
+            x.work(other, 16);
+            Due.answer("split() with a list of before", x.split(), NONE);
+        }
+        LeastSolutions y = Due.system("a+b+c+d+e+f=16");
+        y.work(0, 16);
+        y.work(1, 15);
+        y.work(1, 16);
+        y.tell(3, 16);
+        Due.answer("split() with a list that is refused", y.split(), NONE);
+        Due.answer("times() with a list that is refused", y.times(0), NONE);
     }
 
     private static void splitWithoutColumns() {

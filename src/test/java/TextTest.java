@@ -149,6 +149,11 @@ public final class TextTest {
         Due.fault(x, "a=>=1", 1, 2);
         Due.fault(x, "a<==1", 1, 3);
         Due.fault(x, "a<>1", 1, 1);
+        Due.fault(x, "a<=1", 0, NONE);
+        Due.fault(x, "a<", 1, 1);
+        Due.fault(x, "a=1" + " ".repeat(296) + "<", 1, 299);
+        Due.fault(x, "a=1" + " ".repeat(292) + "+9999", 3, 1);
+        Due.fault(x, "a=1" + " ".repeat(292) + "12345", 1, 295);
         Due.fault(x, "12345=a", 1, 0);
         Due.fault(x, "a=00000", 1, 2);
         Due.fault(x, "a= 123456789012", 1, 3);
@@ -260,6 +265,7 @@ public final class TextTest {
         x.best(9);
         Due.answer("times(0)", x.times(0), 2);
         Due.answer("bestAt(0)", x.bestAt(0), 4);
+        Due.tell(x, 5, 3);
         Due.fault(x, "x=y", 0, NONE);
         for (int list = 0; list <= 2; list++) {
             int what = list;
