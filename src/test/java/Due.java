@@ -2,6 +2,7 @@
 final class Due {
     private static int asked = 0;
     private static int wrong = 0;
+    private static String sentence = "";
 
     interface Call {
         long answer();
@@ -10,12 +11,21 @@ final class Due {
     private Due() {
     }
 
+    /** What is asked from here on is asked for this sentence of a promise (0: of none), and is told with it. */
+    static void sentence(int promise, String words) {
+        sentence = (promise == 0 ? "Document" : "Promise " + promise) + ", '" + words + "': ";
+    }
+
     static void answer(String call, long got, long want) {
         asked++;
         if (got != want) {
-            wrong++;
-            System.out.println(call + " answered " + got + ", due is " + want);
+            isWrong(call + " answered " + got + ", due is " + want);
         }
+    }
+
+    private static void isWrong(String what) {
+        wrong++;
+        System.out.println(sentence + what);
     }
 
     static void holds(String what, boolean isSo) {
@@ -34,8 +44,19 @@ final class Due {
             }
             got = "threw " + e.getClass().getName();
         }
-        wrong++;
-        System.out.println(call + " " + got + ", due is " + want.getName());
+        isWrong(call + " " + got + ", due is " + want.getName());
+    }
+
+    static void noIndex(String call, Call made) {
+        exception(call, IndexOutOfBoundsException.class, made);
+    }
+
+    static void noArgument(String call, Call made) {
+        exception(call, IllegalArgumentException.class, made);
+    }
+
+    static void noState(String call, Call made) {
+        exception(call, IllegalStateException.class, made);
     }
 
     /** Types a text in pieces of at most 8 characters. */
@@ -78,10 +99,10 @@ final class Due {
         }
     }
 
-    /** A list is due as it is written: vectors with commas, a blank in between. */
+    /** A list is due as it is written: vectors with commas, a blank in between; or as "refused". */
     static void list(LeastSolutions x, int what, int bound, String want) {
         int n = x.work(what, bound);
-        StringBuilder got = new StringBuilder();
+        StringBuilder got = new StringBuilder(n == LeastSolutions.NONE ? "refused" : "");
         for (int i = 0; i < n; i++) {
             got.append(i == 0 ? "" : " ");
             for (int column = 0; column < x.count(1); column++) {
@@ -90,8 +111,7 @@ final class Due {
         }
         asked++;
         if (!got.toString().equals(want)) {
-            wrong++;
-            System.out.println("work(" + what + ", " + bound + ") made '" + got + "', due is '" + want + "'");
+            isWrong("work(" + what + ", " + bound + ") made '" + got + "', due is '" + want + "'");
         }
     }
 
