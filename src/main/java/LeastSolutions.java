@@ -347,14 +347,8 @@ public final class LeastSolutions {
             total = 0;
             state = SUM_DUE;
             isRightSide = false;
-            int width = 1;
-            for (int at = 0; at < text.length; at += width) {
-                width = 1;
-                if (text.characterAt(at) == ' ') {
-                    continue;
-                }
-                width = widthAt(text, at);
-                if (!add(text, at, width)) {
+            for (int at = 0; at < text.length; at += Math.max(1, widthAt(text, at))) {
+                if (text.characterAt(at) != ' ' && !add(text, at)) {
                     faultPlace = at;
                     return false;
                 }
@@ -363,7 +357,8 @@ public final class LeastSolutions {
             return isSumWhole() && isRightSide;
         }
 
-        private boolean add(Text text, int at, int width) {
+        private boolean add(Text text, int at) {
+            int width = widthAt(text, at);
             int kind = kindAt(text, at, width);
             int next = stateAfter(kind);
             if (next == NONE || total >= MOST_CHARACTERS) {

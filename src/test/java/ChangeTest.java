@@ -21,6 +21,7 @@ public final class ChangeTest {
         splitThatIsNone();
         whatIsAsked();
         readWithFault();
+        whatReadLeavesOfBefore();
         Due.end("ChangeTest");
     }
 
@@ -248,5 +249,38 @@ public final class ChangeTest {
                 Due.type(x, "b=");
             });
         }
+    }
+
+    private static final String[] SYSTEMS = {"2a+b=c+2", "a<=1;a>=0;b<=3;a+b>=1", "1=1", "20a-19b=17c+3d;a+b+c=d",
+        "1<=2;2>=1", "x=y", "a+b+c+d+e+f=3", "3b-5a=2z", "0q=0", "a=1;a=1;a=1;a=1", "u+v<=2", "1=2", "2a=3b+1"};
+
+    /** An object that was used for other systems answers as a new one does. */
+    private static void whatReadLeavesOfBefore() {
+        Due.sentence(3, "The text becomes the system .. With 0 all lists are gone");
+        for (int first = 0; first < SYSTEMS.length; first++) {
+            LeastSolutions x = used();
+            Due.type(x, "1;;");
+            Due.holds("read() is a fault", x.read() == 1);
+            for (int step = 1; step <= 3; step++) {
+                use(x);
+                Due.fault(x, SYSTEMS[(first + step * step) % SYSTEMS.length], 0, NONE);
+            }
+            String text = SYSTEMS[first];
+            use(x);
+            Due.fault(x, text, 0, NONE);
+            Due.holds("an object used before, with '" + text + "'", seen(x).equals(seen(Due.system(text))));
+        }
+    }
+
+    private static void use(LeastSolutions x) {
+        for (int what = 0; what <= 2; what++) {
+            x.work(what, 6);
+        }
+        for (int column = 0; column < x.count(1); column++) {
+            x.cost(column, 7 - 5 * column);
+            x.tell(column, 1 + column % 2);
+        }
+        x.split();
+        isThrown(y -> y.best(8), x);
     }
 }

@@ -40,6 +40,7 @@ public final class ListEdgeTest {
         solvable("1<=0", 1);
         solvable("2a+1>=2b;2a=2b+1", 0);
         solvable("a=1;a=1;a=1;a=2", 0);
+        solvable("a=-3;2a=-6;a=-3;-a=3", 1);
         solvable("a+b=1;a-b=0", 0);
         solvable("a+b=1;a-b=-1", 1);
         solvable("20a+19b=1;20c+19d=-1;20e+19f=190;a+c+e=0", 1);

@@ -137,6 +137,12 @@ public final class SplitEdgeTest {
         LeastSolutions most = worked("0a=0", 16, 16);
         Due.tell(most, 16);
         splits(most, 0, 16);
+        Due.tell(most, 5);
+        splits(most, 0, 5);
+        // What the least one has taken is not there for the summands.
+        LeastSolutions rest = worked("a+b=c+1", 16, 16);
+        Due.tell(rest, 1, 1, 1);
+        splits(rest, 0, 0, 1);
         LeastSolutions none = worked("a=3", 16, 16);
         Due.tell(none, 3);
         splits(none, 0);
