@@ -31,6 +31,10 @@ public final class ListEdgeTest {
         solvable("20a=-190", 0);
         solvable("6a+10b=2", 1);
         solvable("6a+10b=-1", 0);
+        solvable("2a-3b=1", 1);
+        solvable("-3a+2b=-1", 1);
+        solvable("6a-10b-15c=1", 1);
+        solvable("6a-10b-14c=1", 0);
         solvable("0a+0b=0", 1);
         solvable("0a+0b=1", 0);
         solvable("0=0", 1);

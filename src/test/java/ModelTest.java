@@ -6,7 +6,8 @@ import java.util.Random;
 
 /**
  * All promises on many systems that are made up: against the words of the document, worked out
- * plainly (every vector within the bound, every pair of them, minors instead of an echelon).
+ * plainly (every vector within the bound, every pair of them, minors instead of an echelon). Long
+ * lists take more calls than the 512 of the document; this class does not count them.
  */
 public final class ModelTest {
     private static final int NONE = LeastSolutions.NONE;
